@@ -320,15 +320,11 @@ public final class BirdBook {
     }
 
     public int tally(int day, int i, long v) {
-        int refusal = rows.refusal(day, i);
-        if (refusal == DONE) {
-            rows.more(day, i, v);
-        }
-        return refusal;
+        return rows.more(day, i, v);
     }
 
     public long tallied(int day, int i) {
-        return rows.refusal(day, i) == DONE ? rows.numberAt(day, i) : 0L;
+        return rows.numberAt(day, i);
     }
 
     public int copy(int day, int i, int other, int j, int n) {
@@ -442,16 +438,16 @@ public final class BirdBook {
         int slot = records.size;
         records.draft(NEST, day, young);
         records.draftSigns(reading.signs);
-        long first = birds.fitting(slot, 0);
-        long second = birds.fitting(slot, 1);
-        if (Long.bitCount(first) != 1 || Long.bitCount(second) != 1) {
+        int first = birds.sureRing(slot, 0);
+        int second = birds.sureRing(slot, 1);
+        if (first == NONE || second == NONE) {
             return NOT_OPEN;
         }
-        if (first == second) {
+        if (birds.birdOf[first] == birds.birdOf[second]) {
             return ALREADY;
         }
-        records.told[slot * HALVES] = birds.leastRingLike(slot, 0, first);
-        records.told[slot * HALVES + 1] = birds.leastRingLike(slot, 1, second);
+        records.told[slot * HALVES] = first;
+        records.told[slot * HALVES + 1] = second;
         records.keepDraft();
         kin.gather();
         if (!kin.isWrong(age)) {
@@ -619,7 +615,7 @@ public final class BirdBook {
             return (record * HALVES + half) * LEGS;
         }
 
-        /** One SIGN of a hurried look may be misread, if another one stands beside it; the SIGNS stand from a place on. */
+        /** One SIGN of a hurried look may be misread, if another one was read too (they stand from a place on). */
         int slips(int record, int from) {
             if (kind[record] == CATCH || kind[record] == FOUND) {
                 return 0;
@@ -769,9 +765,14 @@ public final class BirdBook {
             return records.kind[record] != FOUND || lastPut[bird] <= day;
         }
 
-        int leastRingLike(int record, int half, long ofBirds) {
+        /** The least RING that a HALF READS LIKE of the one BIRD that it FITS; NONE, if it is not SURE. */
+        int sureRing(int record, int half) {
+            long set = fitting(record, half);
+            if (Long.bitCount(set) != 1) {
+                return NONE;
+            }
             for (int ring = 0; ring < rings.size; ring++) {
-                if (isIn(ofBirds, birdOf[ring]) && readsLike(record, half, ring)) {
+                if (isIn(set, birdOf[ring]) && readsLike(record, half, ring)) {
                     return ring;
                 }
             }
@@ -1310,6 +1311,14 @@ public final class BirdBook {
             this.width = width;
             this.numbers = numbers;
         }
+
+        boolean hasPlace(int i) {
+            return i >= 0 && i < numbers.length;
+        }
+
+        boolean hasSpan(int i, int n) {
+            return i >= 0 && n >= 0 && n <= numbers.length - i;
+        }
     }
 
     /** The ROWS of the DAYS; each number is kept as a long that never leaves its WIDTH. */
@@ -1346,7 +1355,7 @@ public final class BirdBook {
             return true;
         }
 
-        int refusal(int day, int i) {
+        int more(int day, int i, long v) {
             if (!hasDay(day)) {
                 return NO_SUCH;
             }
@@ -1354,16 +1363,16 @@ public final class BirdBook {
             if (row == null) {
                 return NOT_OPEN;
             }
-            return i >= 0 && i < row.numbers.length ? DONE : OUTSIDE;
-        }
-
-        void more(int day, int i, long v) {
-            Row row = ofDay[day];
+            if (!row.hasPlace(i)) {
+                return OUTSIDE;
+            }
             row.numbers[i] = cut(row.width, row.numbers[i] + v);
+            return DONE;
         }
 
         long numberAt(int day, int i) {
-            return ofDay[day].numbers[i];
+            Row row = hasDay(day) ? ofDay[day] : null;
+            return row != null && row.hasPlace(i) ? row.numbers[i] : 0L;
         }
 
         private static long cut(int width, long v) {
@@ -1391,7 +1400,7 @@ public final class BirdBook {
             if (from.width != to.width) {
                 return OTHER_WIDTH;
             }
-            if (i < 0 || j < 0 || n < 0 || n > from.numbers.length - i || n > to.numbers.length - j) {
+            if (!from.hasSpan(i, n) || !to.hasSpan(j, n)) {
                 return OUTSIDE;
             }
             System.arraycopy(from.numbers, i, to.numbers, j, n);
