@@ -316,7 +316,11 @@ public final class PromisesTest {
         due("record(0, 2)", x.record(0, 2), 0);
         due("record(1, 2)", x.record(1, 2), 40000);
         due("record(2, 2)", x.record(2, 2), 128);
-        for (int i = 3; i < 300; i++) {
+        // The document leaves these two open: a weight written in tenths keeps them, and what is no number is no weight.
+        due("weight 0.7", read(x, 0, 1, 1, 1, 1).caught(1, 0.7f), 3);
+        due("record(3, 2)", x.record(3, 2), 7);
+        due("no number", read(x, 0, 1, 1, 1, 1).caught(1, Float.NaN), -2);
+        for (int i = 4; i < 300; i++) {
             x.note(i);
         }
         due("-3 ahead of -8", read(x, 0, 1).caught(1, 1f), -3);
