@@ -163,31 +163,45 @@ public final class FormTest {
         check("a full book takes " + last[0] + " objects, " + last[1] + " parts", last[0] < 500 && last[1] < 27000);
     }
 
-    /** Books with 60 RINGS and a LIST of 16, drawn so that many BIRDS FIT each HALF. */
+    /** A book of 60 RINGS, drawn so that many are alike. */
+    private static BirdBook crowdedBook(Random random, int signs) {
+        BirdBook book = new BirdBook();
+        Set<Integer> drawn = new TreeSet<>();
+        while (drawn.size() < 60) {
+            drawn.add(random.nextInt(signs * signs * signs * signs));
+        }
+        for (int all : drawn) {
+            int left = all;
+            for (int leg = 0; leg < 4; leg++) {
+                book.read(0, leg, left % signs);
+                left /= signs;
+            }
+            book.ring(0, BirdBook.NONE);
+        }
+        return book;
+    }
+
+    /** Lists of up to 16 HALVES, drawn so that many BIRDS FIT each; no book is called more than 512 times. */
     private static void hardLists() {
         long start = System.nanoTime();
         for (int seed = 0; seed < 300; seed++) {
             Random random = new Random(seed);
-            BirdBook book = new BirdBook();
             int signs = 4 + random.nextInt(20);
-            for (int tries = 0; tries < 500 && book.count(0) < 60; tries++) {
-                for (int leg = 0; leg < 4; leg++) {
-                    book.read(0, leg, random.nextInt(signs));
-                }
-                book.ring(0, BirdBook.NONE);
-            }
-            for (int tries = 0; tries < 290 && book.count(5) < 16; tries++) {
+            BirdBook book = crowdedBook(random, signs);
+            int listed = 0;
+            for (int tries = 0; tries < 30 && listed < 16; tries++) {
                 for (int leg = random.nextInt(4); leg < 4; leg++) {
                     book.read(0, leg, random.nextInt(signs));
                 }
-                book.list(book.sight(1), 0);
+                listed = Math.max(listed, book.list(book.sight(1), 0));
             }
             Set<Integer> birds = new TreeSet<>();
-            for (int i = 0; i < book.count(5); i++) {
+            for (int i = 0; i < listed; i++) {
                 birds.add(book.given(i));
             }
-            check("the GIVING of seed " + seed + " has not LEAST BIRDS", birds.size() == book.least());
-            check("MOST of seed " + seed + " is below LEAST", book.most() >= book.least());
+            int least = book.least();
+            check("the GIVING of seed " + seed + " has not LEAST BIRDS", birds.size() == least);
+            check("MOST of seed " + seed + " is below LEAST", book.most() >= least);
         }
         check("lists take too long", System.nanoTime() - start < 30_000_000_000L);
     }

@@ -815,13 +815,13 @@ public final class PromisesTest {
 
     /** Every n and c that are far apart, every fourth r, and shares from the least to the greatest. */
     private static void spansAllOver() {
-        BirdBook x = new BirdBook();
         PlainBook plain = new PlainBook();
         int[] parts = {1, 2, 3, 7, 20, 39, 40};
         int[][] shares = {{1, 1000}, {1, 40}, {1, 2}, {501, 1000}, {999, 1000}};
         for (int n : parts) {
             for (int c : parts) {
                 for (int r = 0; r <= Math.min(n, c); r += r < 3 ? 1 : 4) {
+                    BirdBook x = new BirdBook();
                     for (int[] share : shares) {
                         String with = "(" + n + ", " + c + ", " + r + ", " + share[0] + ", " + share[1] + ")";
                         promise = 28;
