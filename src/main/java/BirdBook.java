@@ -1083,7 +1083,6 @@ public final class BirdBook {
             int open = allHalves();
             long used = 0L;
             for (int i = 0; i < size; i++) {
-                open &= ~(1 << i);
                 int bird = leastBirdFor(i, open, used, budget);
                 chosen[i] = bird;
                 if (bird != NONE && !isIn(used, bird)) {

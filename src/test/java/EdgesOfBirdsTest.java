@@ -135,6 +135,31 @@ public final class EdgesOfBirdsTest extends Edges {
         due("DEATHS of two BIRDS", x.death(0), 15);
         due("DEATHS of two BIRDS", x.death(1), 39);
         due("BIRDS with a DEATH", x.count(4), 2);
+        x.lose(1, 38);
+        due("LOST ahead of it, as is told only now", x.death(1), NONE);
+        due("BIRDS with a DEATH", x.count(4), 1);
+        BirdBook zero = new BirdBook();
+        plainRing(zero, 0, NONE, 5);
+        found(zero, 0, 0);
+        due("a FOUND of no RING on DAY 0", zero.death(0), NONE);
+        allSixty();
+    }
+
+    private static void allSixty() {
+        BirdBook x = new BirdBook();
+        for (int sign = 0; sign < 60; sign++) {
+            plainRing(x, 0, NONE, sign);
+        }
+        found(x, 5, 60);
+        due("a FOUND of none of 60 RINGS", x.count(4), 0);
+        found(x, 5, 59);
+        due("a FOUND of the last of them", x.death(59), 5);
+        due("a SIGHT of none of them", fitsOf(x, b -> sight(b, 5, 60)), 0);
+        due("a CATCH of none of them", x.nearest(caught(x, 5, 60), 0), 0);
+        due("a SIGHT of the last of them", x.who(sight(x, 5, 59), 0, 0), 59);
+        due("a NEST of none of them", nest(x, 5, 0, 60, 61), -5);
+        due("a PARENT that is dead", nest(x, 6, 0, 58, 59), -5);
+        due("there", x.there(4, 6, 7, 0), 59);
     }
 
     private static void fitting() {
@@ -294,6 +319,13 @@ public final class EdgesOfBirdsTest extends Edges {
         BirdBook other = made(setup);
         caught(other, 150, 1);
         due("SURE of another BIRD", other.alive(0, 150), 2);
+        BirdBook none = new BirdBook();
+        plainRing(none, 100, NONE, 1);
+        sight(none, 150, 9);
+        none.note(1);
+        due("a SIGHT that FITS none, with one BIRD alone", none.alive(0, 150), 2);
+        pair(none, 151, half(9), 8);
+        due("a PAIR that FITS none", none.alive(0, 150), 2);
         BirdBook several = made(setup);
         caught(several, 300, 1);
         caught(several, 250, 1);
@@ -406,7 +438,27 @@ public final class EdgesOfBirdsTest extends Edges {
                 due("forebear(" + a + ", " + b + ")", x.forebear(a, b), want[a][b]);
             }
         }
+        chainsOverTheFirst();
         longChains();
+    }
+
+    /** BIRD 0 is the young of the young, then the one between the others. */
+    private static void chainsOverTheFirst() {
+        BirdBook young = new BirdBook();
+        young.rule(10, 14600);
+        plainRings(young, 20, 10, 0, 0);
+        nest(young, 50, 1, 2, 3);
+        nest(young, 50, 0, 1, 3);
+        due("forebear(2, 0)", young.forebear(2, 0), true);
+        due("forebear(0, 2)", young.forebear(0, 2), false);
+        BirdBook between = new BirdBook();
+        between.rule(10, 14600);
+        plainRings(between, 10, 20, 0, 0);
+        nest(between, 50, 1, 0, 3);
+        nest(between, 50, 0, 2, 3);
+        due("forebear(2, 1)", between.forebear(2, 1), true);
+        due("forebear(2, 0)", between.forebear(2, 0), true);
+        due("forebear(1, 2)", between.forebear(1, 2), false);
     }
 
     /** Chains that are told from the young end on, up and down the RINGS' numbers. */
@@ -457,7 +509,8 @@ public final class EdgesOfBirdsTest extends Edges {
     }
 
     private static void partedNow() {
-        says("All answers are by the JOINS that are not PARTED now.");
+        says("A JOIN of RINGS a and b makes their BIRDS one, till it is PARTED. "
+                + "All answers are by the JOINS that are not PARTED now.");
         BirdBook x = new BirdBook();
         x.rule(0, 14600);
         plainRings(x, 10, 20, 0, 30);

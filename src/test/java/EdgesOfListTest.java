@@ -94,6 +94,21 @@ public final class EdgesOfListTest extends Edges {
         due("the LIST", made(setup).count(5), 16);
     }
 
+    private static void askedAsTheyCome() {
+        says("The LIST has up to 16 HALVES that FIT a BIRD (asked as they come to it).");
+        BirdBook x = made(EdgesOfListTest::some);
+        due("FITS none", x.list(2, 0), -5);
+        plainRing(x, 20, NONE, 9);
+        due("FITS one by now", x.list(2, 0), 1);
+        x.lose(0, 19);
+        due("FITS none any more", x.list(1, 0), -5);
+        x.lose(2, 20);
+        due("its loss on that DAY", x.given(0), 2);
+        found(x, 20, 9);
+        due("its DEATH on that DAY", x.given(0), 2);
+        due("the LIST", x.count(5), 1);
+    }
+
     private static void emptied() {
         says("The LIST is empty: how many it had.");
         BirdBook x = made(EdgesOfListTest::sixteen);
@@ -184,11 +199,18 @@ public final class EdgesOfListTest extends Edges {
         gives("the other way round", listed(two, half(1, 5), half(0, 1)), 1, 2, 1, 1);
         gives("one each", listed(two, half(1, 2), half(1, 5)), 2, 2, 0, 1);
         gives("one each and one of both", listed(two, half(1, 5), half(0, 1), half(1, 2)), 2, 2, 1, 0, 0);
+        gives("one and two", listed(two, half(1, 2), half(1, 5), half(1, 5)), 2, 2, 0, 1, 1);
         // {0, 1}, {0, 2}, {1, 2}
         int[][] three = {{1, 1, 5, 0}, {1, 6, 1, 1}, {7, 1, 1, 2}};
         gives("each two of three", listed(three, half(0, 1), half(1, 1), half(2, 1)), 2, 3, 0, 0, 1);
         gives("in another order", listed(three, half(2, 1), half(1, 1), half(0, 1)), 2, 3, 1, 0, 0);
         gives("with one alone", listed(three, half(3, 2), half(0, 1), half(1, 1)), 2, 3, 2, 0, 0);
+        // {0, 1}, {2, 3}, {0, 2}, {1, 3}: BIRDS 0 and 3, or 1 and 2.
+        int[][] tied = {{1, 10, 1, 10}, {1, 11, 11, 1}, {12, 1, 1, 12}, {13, 1, 13, 1}};
+        gives("the first HALF's BIRD settles the others'",
+                listed(tied, half(0, 1), half(1, 1), half(2, 1), half(3, 1)), 2, 4, 0, 3, 0, 3);
+        gives("in another order",
+                listed(tied, half(1, 1), half(0, 1), half(2, 1), half(3, 1)), 2, 4, 2, 1, 2, 1);
         // BIRD 0 covers the most HALVES, and is in no GIVING of LEAST.
         int[][] greedy = {{1, 1, 1, 1}, {1, 1, 2, 9}, {8, 8, 1, 1}};
         gives("the BIRD of most HALVES is none of the fewest",
@@ -197,6 +219,41 @@ public final class EdgesOfListTest extends Edges {
         // {0, 1}, {1, 2}, {2, 3}, {0}: each has a BIRD of its own only if all three move on.
         int[][] chain = {{1, 10, 20, 30}, {1, 2, 21, 31}, {11, 2, 3, 32}, {12, 13, 3, 33}};
         gives("each moves on", listed(chain, half(0, 1), half(1, 2), half(2, 3), half(3, 30)), 2, 4, 0, 2, 2, 0);
+    }
+
+    /** Each answer is of the LIST as it is, whatever was listed and asked ahead of it. */
+    private static void givingsAnew() {
+        int[][] rings = {{1, 1, 5, 0}, {1, 6, 1, 1}, {7, 1, 1, 2}};
+        BirdBook x = listed(rings, half(3, 0), half(3, 0), half(3, 2));
+        gives("ahead of it", x, 2, 2, 0, 0, 2);
+        x.empty();
+        x.list(2, 0);
+        x.list(0, 0);
+        gives("listed anew", x, 2, 2, 2, 0);
+        x.empty();
+        gives("emptied", x, 0, 0);
+        // RING 0 is LOST, so that the SIGHT of it or of RING 1 is RING 1's.
+        BirdBook y = listed(rings, half(0, 1), half(3, 0), half(1, 1));
+        gives("ahead of the loss", y, 1, 3, 0, 0, 0);
+        y.lose(0, 19);
+        y.empty();
+        y.list(0, 0);
+        y.list(2, 0);
+        gives("behind the loss", y, 2, 2, 1, 2);
+    }
+
+    /** So many BIRDS as LEAST asks for, where the HALVES of the greatest ones would seem to allow fewer. */
+    private static void unevenGivings() {
+        int[][] own = {{0, 0, 0, 0}, {1, 1, 1, 1}, {2, 2, 2, 2}, {3, 3, 3, 3}};
+        gives("three, one and one", listed(own, half(0, 0), half(1, 0), half(0, 1), half(2, 0), half(0, 2)),
+                3, 3, 0, 0, 1, 0, 2);
+        int[][] halves = new int[16][];
+        int[] birds = new int[16];
+        for (int i = 0; i < 16; i++) {
+            halves[i] = half(i / 4, i % 4);
+            birds[i] = i % 4;
+        }
+        gives("four of each", listed(own, halves), 4, 4, birds);
     }
 
     private static void longGivings() {
@@ -227,9 +284,12 @@ public final class EdgesOfListTest extends Edges {
 
     public static void main(String[] args) {
         listing();
+        askedAsTheyCome();
         emptied();
         noGiving();
         givings();
+        givingsAnew();
+        unevenGivings();
         longGivings();
         end("the edges of the LIST");
     }

@@ -69,6 +69,10 @@ public final class EdgesOfNumbersTest extends Edges {
         due("a new RING of another BIRD", x.there(10, 20, 30, 1), 4);
         x.join(2, 4);
         due("a new RING of a BIRD that was caught", x.there(10, 20, 30, 1), 3);
+        BirdBook first = new BirdBook();
+        plainRing(first, 20, NONE, 0);
+        due("RING 0 PUT on b", first.there(10, 20, 20, 1), 1);
+        due("RING 0 PUT a DAY behind e", first.there(10, 19, 19, 1), 0);
         BirdBook late = made(setup);
         plainRing(late, 25, NONE, 9);
         late.lose(0, 25);

@@ -94,9 +94,12 @@ public final class EdgesOfRecordsTest extends Edges {
         refusedReading(setup, "-2 comes ahead of -3", x -> x.nest(20, 3), -2);
         refusedReading(setup, "-3", x -> x.nest(20, 2), -3);
         refusedReading(setup, "-2 comes ahead of -5", x -> nest(x, 14601, 2, 0, 9), -2);
+        refusedReading(setup, "-2 comes ahead of -4", x -> nest(x, 20, 3, 0, 0), -2);
+        refusedReading(setup, "-2 comes ahead of -9", x -> nest(x, -1, 0, 0, 1), -2);
         says("-5: a HALF is not SURE (as of that DAY, now)");
         refusedReading(setup, "HALF 0 FITS none", x -> nest(x, 20, 2, 9, 1), -5);
         refusedReading(setup, "HALF 1 FITS none", x -> nest(x, 20, 2, 0, 9), -5);
+        refusedReading(setup, "-5 comes ahead of -9", x -> nest(x, 20, 0, 0, 9), -5);
         Setup twins = x -> {
             threeRings(x);
             ring(x, 10, NONE, 1, 1, 1, 9);

@@ -116,6 +116,8 @@ public final class EdgesOfRingsTest extends Edges {
         refusedReading(setup, "ring(0, 14600)", x -> plainRing(x, 0, 14600, 9), -2);
         refusedReading(setup, "ring(5476, 0)", x -> plainRing(x, 5476, 0, 9), -2);
         refusedReading(setup, "ring(14600, 9124)", x -> plainRing(x, 14600, 9124, 9), -2);
+        says("A RING with the SIGNS of HALF 0 of the READING is PUT on that DAY on a BIRD that has none; "
+                + "hatched may be NONE: its number.");
         int[][] right = {{20, 20}, {20, 19}, {20, NONE}, {5475, 0}, {5476, 1}, {14600, 9125}, {0, 0}, {14600, 14600}};
         for (int[] one : right) {
             BirdBook x = made(setup);
@@ -193,6 +195,7 @@ public final class EdgesOfRingsTest extends Edges {
         says("-3: it was PUT behind that");
         refused(setup, "lose(0, 9)", x -> x.lose(0, 9), -3);
         refused(setup, "lose(1, 0)", x -> x.lose(1, 0), -3);
+        says("The RING is LOST on that DAY: 0.");
         for (int day : new int[] {10, 11, 14600}) {
             BirdBook x = made(setup);
             due("lose(0, " + day + ")", x.lose(0, day), 0);
@@ -361,7 +364,12 @@ public final class EdgesOfRingsTest extends Edges {
         plainRing(y, 60, 30, 8);
         y.lose(2, 55);
         due("a PARENT that HATCHED just in time", y.join(2, 8), 0);
-        says("-9: it would be WRONG; -8: there are 60 (PARTED ones, too).");
+        says("-5: the BIRD of one has a DEATH that is ahead of the PUT of a RING of the other's; -9: it would be WRONG");
+        refused(EdgesOfRingsTest::kin, "-3 comes ahead of -9: not LOST", b -> b.join(0, 2), -3);
+        refused(b -> {
+            kin(b);
+            b.lose(2, 25);
+        }, "-3 comes ahead of -9: PUT ahead", b -> b.join(2, 0), -3);
         refused(b -> {
             kin(b);
             b.lose(0, 15);

@@ -6,6 +6,38 @@ public final class EdgesOfTermsTest extends Edges {
         plainRings(x, 0, 0, 0);
     }
 
+    private static void newBook() {
+        says("No RINGS, RECORDS, ROWS; nothing is read.");
+        BirdBook x = new BirdBook();
+        for (int what = 0; what < 30; what++) {
+            due("count(" + what + ")", x.count(what), what < 6 ? 0 : NONE);
+        }
+        due("lose(0, 0)", x.lose(0, 0), -2);
+        due("join(0, 0)", x.join(0, 0), -2);
+        due("part(0)", x.part(0), -2);
+        due("fits(0, 0)", x.fits(0, 0), -2);
+        due("who(0, 0, 0)", x.who(0, 0, 0), NONE);
+        due("nearest(0, 0)", x.nearest(0, 0), NONE);
+        due("bird(0)", x.bird(0), NONE);
+        due("death(0)", x.death(0), NONE);
+        due("alive(0, 0)", x.alive(0, 0), NONE);
+        due("parent(0, 0)", x.parent(0, 0), NONE);
+        due("forebear(0, 0)", x.forebear(0, 0), false);
+        due("list(0, 0)", x.list(0, 0), -2);
+        due("empty()", x.empty(), 0);
+        due("least()", x.least(), 0);
+        due("most()", x.most(), 0);
+        due("given(0)", x.given(0), NONE);
+        due("there(0, 1, 1, 3)", x.there(0, 1, 1, 3), 0);
+        due("record(0, 0)", x.record(0, 0), NONE);
+        due("noted(0)", x.noted(0), 0);
+        due("tallied(0, 0)", x.tallied(0, 0), 0);
+        due("copy(0, 0, 0, 0, 0)", x.copy(0, 0, 0, 0, 0), -5);
+        due("nest(0, 0)", x.nest(0, 0), -2);
+        due("rule(365, 5475)", x.rule(365, 5475), true);
+        due("NONE", NONE, -1);
+    }
+
     private static void days() {
         says("DAYS are 0 to 14600.");
         for (int day : NO_DAYS) {
@@ -327,6 +359,7 @@ public final class EdgesOfTermsTest extends Edges {
     }
 
     public static void main(String[] args) {
+        newBook();
         days();
         signs();
         rings();
