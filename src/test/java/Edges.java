@@ -146,6 +146,14 @@ abstract class Edges {
     }
 
     private static void sameBook(String call, Setup one, Setup other) {
+        String before = sentence;
+        says("Each call that is refused gives the first of the refusals told of it, and changes nothing "
+                + "(but the READING, as told).");
+        sameAnswers(call, one, other);
+        says(before);
+    }
+
+    private static void sameAnswers(String call, Setup one, Setup other) {
         List<Call> questions = questions(made(one));
         for (int from = 0; from < questions.size(); from += QUESTIONS_TO_A_BOOK) {
             BirdBook x = made(one);
@@ -160,7 +168,7 @@ abstract class Edges {
         }
     }
 
-    /** All that can be asked without a change. */
+    /** What can be asked without a change: of each RING and RECORD, on some DAYS, of the LIST and of some ROWS. */
     private static List<Call> questions(BirdBook x) {
         List<Call> all = new ArrayList<>();
         for (int what = 0; what <= 5; what++) {
@@ -230,7 +238,7 @@ abstract class Edges {
         }
     }
 
-    /** What can be asked only by a change, each of a book of its own. */
+    /** What can be asked only by a change (the READING, PARTED JOINS, what is listed, ROWS), each of a book of its own. */
     private static List<Call> probes(BirdBook x) {
         List<Call> all = new ArrayList<>();
         for (int place = 0; place < 8; place++) {

@@ -272,6 +272,10 @@ public final class EdgesOfBirdsTest extends Edges {
             found(x, 200, 1);
         };
         answers(deadAtOnce, new int[] {180, 199, 200, 201}, 1, 1, 0, 0);
+        says("Else 2 maybe.");
+        answers(known, new int[] {201, 280}, 2, 2);
+        answers(unknown, new int[] {100, 199, 201, 300}, 2, 2, 2, 2);
+        answers(dead, new int[] {201, 249}, 2, 2);
         Setup first = x -> {
             x.rule(0, 14600);
             plainRing(x, 0, NONE, 1);

@@ -177,7 +177,8 @@ public final class EdgesOfListTest extends Edges {
     }
 
     private static void gives(String what, BirdBook x, int least, int most, int... birds) {
-        says("LEAST is the smallest number of BIRDS in a GIVING, MOST the greatest");
+        says("A GIVING gives each of them a BIRD that it FITS. LEAST is the smallest number of BIRDS in a GIVING, "
+                + "MOST the greatest");
         due(what + ": least()", x.least(), least);
         due(what + ": most()", x.most(), most);
         says("the GIVING of LEAST is that whose BIRDS, from the first HALF on, are the least of all GIVINGS with so few.");

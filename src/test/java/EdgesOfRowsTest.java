@@ -72,6 +72,7 @@ public final class EdgesOfRowsTest extends Edges {
             refused(setup, "tear(" + day + ")", x -> x.tear(day) ? 1 : 0, 0);
         }
         refused(setup, "tear(3)", x -> x.tear(3) ? 1 : 0, 0);
+        says("They may be torn.");
         BirdBook x = made(setup);
         due("tear(0)", x.tear(0), true);
         due("tear(0) again", x.tear(0), false);
