@@ -1,3 +1,5 @@
+import java.util.Arrays;
+
 /** The edges of promises 22 to 26: the LIST and its GIVINGS. */
 public final class EdgesOfListTest extends Edges {
 
@@ -271,6 +273,7 @@ public final class EdgesOfListTest extends Edges {
             halves[i] = half(0, 50);
         }
         gives("16 HALVES, each of all 16 BIRDS", listed(own, halves), 1, 16, new int[16]);
+        gives("16 HALVES, each of the same 15 BIRDS", listed(Arrays.copyOf(own, 15), halves), 1, 15, new int[16]);
         for (int i = 0; i < 16; i++) {
             halves[i] = half(1, 7);
             birds[i] = 7;
