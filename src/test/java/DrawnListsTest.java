@@ -5,8 +5,9 @@ import java.util.List;
 import java.util.Random;
 
 /**
- * Full LISTS over 60 RINGS, drawn from fixed seeds. What each HALF FITS is taken from who(); LEAST, MOST and the GIVING
- * of LEAST are then reckoned over all sets of HALVES, which the drawn runs against PlainBook are too small for.
+ * LISTS of up to 16 HALVES (most have all 16) over 60 RINGS, drawn from fixed seeds. What each HALF FITS is taken from
+ * who(); LEAST, MOST and the GIVING of LEAST are then reckoned over all sets of HALVES. The drawn runs against PlainBook
+ * have fewer RINGS.
  */
 public final class DrawnListsTest {
     private static final int RINGS = 60;
